@@ -43,8 +43,15 @@ public final class Promise05ConfirmTest {
         Master master = withEvents(3, 0);
         master.request(192, 1, 60, 2, 7, 1);
         master.request(192, 0);
-        master.request(192, 0);
+        check.silent("a second confirm", master.request(192, 0));
         check.due("one went", master.station.events(0), 2);
+        Master full = withEvents(6, 0);
+        full.request(192, 1, 60, 2, 7, 1);
+        full.request(192, 0);
+        full.station.change(0, 6, 1);
+        full.station.change(0, 7, 1);
+        full.request(192, 0);
+        check.due("a second one leaves the overflow", full.request(193, 1), 193, 129, 130, 8);
     }
 
     private static void onlyItsNumber(Check check) {
@@ -84,7 +91,10 @@ public final class Promise05ConfirmTest {
         check.due("and overflow stays", master.request(193, 1), 193, 129, 130, 8);
         master.request(193, 0);
         check.due("before and behind", master.request(193, 1), 193, 129, 130, 8);
-        check.silent("a confirm on a new object", new Master(new OutStation()).request(192, 0));
+        Master first = withEvents(6, 0);
+        first.station.change(0, 7, 1);
+        check.silent("a confirm before any answer", first.request(192, 0));
+        check.due("leaves all as it was", first.request(193, 1), 193, 129, 130, 8);
     }
 
     private static void eventsThatAreGoneAlready(Check check) {

@@ -32,6 +32,11 @@ public final class Promise05PartsTest {
         Master master = new Master(new OutStation());
         master.bringPart(LAST, 192, 1);
         check.silent("none is begun", master.answer());
+        for (int number = 0; number < 3; number++) {
+            Master zero = new Master(new OutStation(), 0);
+            zero.bringPart(LAST + number, 192, 1);
+            check.silent("none is begun by 0 either", zero.answer());
+        }
         master.bringPart(FIRST + 5, 192);
         master.bringPart(LAST + 5, 1);
         check.silent("the same number", master.answer());
@@ -108,8 +113,8 @@ public final class Promise05PartsTest {
         check.silent("no byte", master.answer());
         check.silent("one byte", master.request(192));
         master.request(192, 3, 12, 1, 23, 1, 2, 3);
-        master.request(192);
-        master.request(208, 1);
+        check.silent("one byte behind an answer", master.request(192));
+        check.silent("another beginning behind an answer", master.request(208, 1));
         check.due("they leave what is selected", master.request(193, 4, 12, 1, 23, 1, 2, 3)[10], 0);
         master.station.change(0, 0, 1);
         master.request(194, 1, 60, 2, 6);
