@@ -5,23 +5,33 @@ public final class AnyCallsTest {
     private static final int[] EDGES = {Integer.MIN_VALUE, -2, -1, 0, 1, 2, 3, 4, 7, 8, 9, 100, 101, 255, 256, Integer.MAX_VALUE};
 
     public static void main(String[] args) {
-        Check check = new Check();
+        Check.run(AnyCallsTest.class);
+    }
+
+    @Holds({"A call of the face throws exactly what and where the document says, and nothing else ever reaches its caller.",
+        "No call may ever throw by itself (only by a throw statement) or fail to end, for any arguments in any state:"})
+    static void anyArguments(Check check) {
         for (int seed = 1; seed <= 300; seed++) {
-            anyArguments(check, new Random(seed));
-            manyOrFewBytesAtOnce(check, new Random(seed));
+            callWithAnyArguments(check, new Random(seed));
         }
-        check.end();
+    }
+
+    @Holds("HEARING: what the master's line brings are bytes in a row.")
+    static void manyOrFewBytesAtOnce(Check check) {
+        for (int seed = 1; seed <= 300; seed++) {
+            bringTogetherAndOneByOne(check, new Random(seed));
+        }
     }
 
     private static int any(Random random) {
         return random.nextInt(3) > 0 ? random.nextInt(10) - 1 : EDGES[random.nextInt(EDGES.length)];
     }
 
-    private static void anyArguments(Check check, Random random) {
+    private static void callWithAnyArguments(Check check, Random random) {
         OutStation x = new OutStation();
-        Master master = new Master(x);
+        Master master = new Master(x, 3);
         int thrown = 0;
-        for (int i = 0; i < 512; i++) {
+        for (int i = 0; i < 300; i++) {
             int which = random.nextInt(10);
             try {
                 anyCall(x, master, which, random);
@@ -64,7 +74,7 @@ public final class AnyCallsTest {
         return bytes;
     }
 
-    private static void manyOrFewBytesAtOnce(Check check, Random random) {
+    private static void bringTogetherAndOneByOne(Check check, Random random) {
         OutStation one = new OutStation();
         OutStation other = new OutStation();
         for (int p = 0; p < 8; p++) {
@@ -72,17 +82,18 @@ public final class AnyCallsTest {
             other.change(1, p, p * 1000);
         }
         int[] bytes = new int[0];
-        for (int i = 0; i < 8; i++) {
+        for (int i = 0; i < 5; i++) {
             bytes = Master.join(bytes, anyFrame(random));
         }
-        int left = new Master(one).bring(bytes);
+        int left = new Master(one, 3).bring(bytes);
         int leftOther = 0;
         for (int b : bytes) {
             leftOther = other.hear(b, 1);
         }
         check.due("bytes left", leftOther, left);
-        check.due("bytes sent", other.sent(-1), one.sent(-1));
-        for (int k = 0; k < Math.min(256, one.sent(-1)); k++) {
+        int sent = one.sent(-1);
+        check.due("bytes sent", other.sent(-1), sent);
+        for (int k = 0; k < Math.min(256, sent); k++) {
             check.due("sent(" + k + ")", other.sent(k), one.sent(k));
         }
     }

@@ -19,7 +19,13 @@ public final class FaceTest {
         "public int OutStation.told(int) throws java.lang.IndexOutOfBoundsException"};
 
     public static void main(String[] args) {
-        Check check = new Check();
+        Check.run(FaceTest.class);
+    }
+
+    @Holds({"The face: the class of the document, public and final, with the public constructor, methods and constants of"
+        + " the document and no other public, protected or package-visible member,",
+        "No private method bears the name of a public one."})
+    static void theMembers(Check check) {
         Class<?> face = OutStation.class;
         check.due("modifiers", face.getModifiers(), Modifier.PUBLIC | Modifier.FINAL);
         TreeSet<String> seen = new TreeSet<>();
@@ -30,9 +36,7 @@ public final class FaceTest {
                 names.add(m.getName());
             }
         }
-        if (!seen.equals(new TreeSet<>(Arrays.asList(DUE)))) {
-            check.tell("the methods are " + seen);
-        }
+        check.due("methods of the document in " + seen, seen.equals(new TreeSet<>(Arrays.asList(DUE))));
         for (Constructor<?> c : face.getDeclaredConstructors()) {
             check.due(c + " is public and bare", c.getModifiers() + c.getParameterCount(), Modifier.PUBLIC);
         }
@@ -45,6 +49,5 @@ public final class FaceTest {
                 check.due(m + " bears a name of the face", names.contains(m.getName()) ? 1 : 0, 0);
             }
         }
-        check.end();
     }
 }

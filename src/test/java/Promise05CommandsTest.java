@@ -1,149 +1,213 @@
 import java.util.Arrays;
 
-/** Promise 5: WRITE, SELECT, OPERATE and DIRECT. */
+/** Promise 5: WRITE, SELECT, OPERATE, DIRECT and other functions. */
 public final class Promise05CommandsTest {
-    private static final int SELECT = 3;
-    private static final int OPERATE = 4;
-    private static final int DIRECT = 5;
-    private static final int ON = 3;
-    private static final int OFF = 4;
+    private static final int SELECT = Master.SELECT;
+    private static final int OPERATE = Master.OPERATE;
+    private static final int DIRECT = Master.DIRECT;
+    private static final int ON = Master.ON;
+    private static final int OFF = Master.OFF;
 
     public static void main(String[] args) {
-        Check check = new Check();
-        writing(check);
-        direct(check);
-        selectAndOperate(check);
-        selectedOtherwise(check);
-        numbers(check);
-        whatEndsASelection(check);
-        wrongOutputsAndValues(check);
-        wrongBytes(check);
-        check.end();
+        Check.run(Promise05CommandsTest.class);
     }
 
-    private static int[] command(Master master, int number, int function, int x, int v) {
-        return master.request(192 + number, function, 12, 1, 23, 1, x, v);
+    /** Bytes that differ from the right ones: one changed, one too few, one too many, none, twice. */
+    private static int[][] wrongOnes(int[] right, int fixed) {
+        int[][] wrong = new int[2 * fixed + 4][];
+        for (int i = 0; i < fixed; i++) {
+            wrong[2 * i] = right.clone();
+            wrong[2 * i][i]++;
+            wrong[2 * i + 1] = right.clone();
+            wrong[2 * i + 1][i] ^= 128;
+        }
+        wrong[2 * fixed] = Arrays.copyOf(right, right.length - 1);
+        wrong[2 * fixed + 1] = Arrays.copyOf(right, right.length + 1);
+        wrong[2 * fixed + 2] = new int[0];
+        wrong[2 * fixed + 3] = Master.join(right, right);
+        return wrong;
     }
 
-    private static void dueStatus(Check check, String what, int[] answer, int status) {
-        check.due(what, answer == null || answer.length != 11 ? -1 : answer[10], status);
+    @Holds("2 WRITE: with the bytes 80 1 0 7 7 0 alone: restart is off.")
+    static void restartIsOff(Check check) {
+        Master master = new Master();
+        check.due("write", master.request(193, 2, 80, 1, 0, 7, 7, 0), Master.answerOf(193, 0, 0));
+        check.due("it stays off", master.request(194, 1), Master.answerOf(194, 0, 0));
+        check.due("once more", master.request(195, 2, 80, 1, 0, 7, 7, 0), Master.answerOf(195, 0, 0));
     }
 
-    private static void writing(Check check) {
-        int[][] wrong = {{}, {80}, {80, 1, 0, 7, 7}, {80, 1, 0, 7, 7, 1}, {80, 1, 0, 7, 8, 0}, {80, 1, 0, 6, 7, 0},
-            {80, 1, 1, 7, 7, 0}, {80, 2, 0, 7, 7, 0}, {81, 1, 0, 7, 7, 0}, {80, 1, 0, 7, 7, 0, 0}};
-        Master master = new Master(new OutStation());
-        for (int[] bytes : wrong) {
+    @Holds("Otherwise sign PARAMETER.")
+    static void otherBytesToWrite(Check check) {
+        for (int[] bytes : wrongOnes(new int[] {80, 1, 0, 7, 7, 0}, 6)) {
+            Master master = new Master();
             check.due("write " + Arrays.toString(bytes), master.request(Master.join(new int[] {192, 2}, bytes)),
-                192, 129, 128, 4);
-        }
-        check.due("write", master.request(193, 2, 80, 1, 0, 7, 7, 0), 193, 129, 0, 0);
-        check.due("restart stays off", master.request(194, 1), 194, 129, 0, 0);
-        check.due("once more", master.request(195, 2, 80, 1, 0, 7, 7, 0), 195, 129, 0, 0);
-    }
-
-    private static void direct(Check check) {
-        for (int x = 0; x < 4; x++) {
-            Master master = new Master(new OutStation());
-            check.due("on", command(master, 6, DIRECT, x, ON), 198, 129, 128, 0, 12, 1, 23, 1, x, ON, 0);
-            for (int y = 0; y < 4; y++) {
-                check.due("output " + y, master.station.point(2, y), y == x ? 1 : 0);
-            }
-            check.due("off", command(master, 6, DIRECT, x, OFF), 198, 129, 128, 0, 12, 1, 23, 1, x, OFF, 0);
-            check.due("output " + x, master.station.point(2, x), 0);
-        }
-        Master master = new Master(new OutStation());
-        command(master, 0, DIRECT, 0, ON);
-        check.due("outputs have no events", master.station.events(0) + master.station.events(1), 0);
-    }
-
-    private static void selectAndOperate(Check check) {
-        Master master = new Master(new OutStation());
-        check.due("select", command(master, 0, SELECT, 2, ON), 192, 129, 128, 0, 12, 1, 23, 1, 2, ON, 0);
-        check.due("does not operate", master.station.point(2, 2), 0);
-        check.due("operate", command(master, 1, OPERATE, 2, ON), 193, 129, 128, 0, 12, 1, 23, 1, 2, ON, 0);
-        check.due("does", master.station.point(2, 2), 1);
-        dueStatus(check, "but once", command(master, 2, OPERATE, 2, ON), 2);
-        dueStatus(check, "select off", command(master, 3, SELECT, 2, OFF), 0);
-        dueStatus(check, "operate off", command(master, 4, OPERATE, 2, OFF), 0);
-        check.due("it is off", master.station.point(2, 2), 0);
-        command(master, 5, SELECT, 0, ON);
-        command(master, 6, SELECT, 1, ON);
-        dueStatus(check, "a later selection counts", command(master, 7, OPERATE, 1, ON), 0);
-    }
-
-    private static void selectedOtherwise(Check check) {
-        Master master = new Master(new OutStation());
-        dueStatus(check, "nothing is selected", command(master, 1, OPERATE, 0, ON), 2);
-        dueStatus(check, "not with all zero either", command(master, 1, OPERATE, 0, OFF), 2);
-        command(master, 0, SELECT, 2, ON);
-        dueStatus(check, "another output", command(master, 1, OPERATE, 3, ON), 2);
-        dueStatus(check, "that ends it", command(master, 1, OPERATE, 2, ON), 2);
-        command(master, 0, SELECT, 2, ON);
-        dueStatus(check, "another value", command(master, 1, OPERATE, 2, OFF), 2);
-        command(master, 0, SELECT, 2, ON);
-        master.station.pass(11);
-        dueStatus(check, "another one and too late", command(master, 1, OPERATE, 2, OFF), 2);
-        command(master, 0, SELECT, 2, ON);
-        master.station.pass(11);
-        dueStatus(check, "too late", command(master, 1, OPERATE, 2, ON), 1);
-        dueStatus(check, "that ends it too", command(master, 1, OPERATE, 2, ON), 2);
-        check.due("nothing was operated", master.station.point(2, 2) + master.station.point(2, 3), 0);
-    }
-
-    private static void numbers(Check check) {
-        for (int selected = 0; selected < 16; selected++) {
-            for (int number = 0; number < 16; number += selected == 15 ? 1 : 5) {
-                Master master = new Master(new OutStation());
-                command(master, selected, SELECT, 1, ON);
-                dueStatus(check, "number " + number + " behind " + selected,
-                    command(master, number, OPERATE, 1, ON), number == (selected + 1) % 16 ? 0 : 2);
-            }
+                Master.answerOf(192, 128, Master.PARAMETER));
+            check.due("restart is on", master.read(), Master.answerOf(192, 128, 0));
         }
     }
 
-    private static void whatEndsASelection(Check check) {
-        int[][] ending = {{1}, {2, 80, 1, 0, 7, 7, 0}, {2}, {77}, {4}, {4, 12, 1, 23, 1, 9, 3}, {5},
-            {5, 12, 1, 23, 1, 0, 3}, {5, 12, 1, 23, 1, 9, 3}, {3}, {3, 12, 1, 23, 1, 4, 3}, {3, 12, 1, 23, 1, 1, 5},
-            {3, 12, 1, 23, 1, 1, 3, 0}};
-        for (int[] other : ending) {
-            Master master = new Master(new OutStation());
-            command(master, 0, SELECT, 1, ON);
-            master.request(Master.join(new int[] {192}, other));
-            dueStatus(check, "behind " + Arrays.toString(other), command(master, 1, OPERATE, 1, ON), 2);
-        }
-        Master master = new Master(new OutStation());
-        command(master, 0, SELECT, 1, ON);
-        master.request(192, 0);
-        master.station.change(0, 0, 1);
-        dueStatus(check, "a confirm leaves it", command(master, 1, OPERATE, 1, ON), 0);
-    }
-
-    private static void wrongOutputsAndValues(Check check) {
+    @Holds({"3 SELECT, 4 OPERATE, 5 DIRECT: with the bytes 12 1 23 1, a byte x, a byte v alone (otherwise sign PARAMETER);",
+        "23 a byte n, and n objects."})
+    static void otherBytesOfCommands(Check check) {
         for (int function = SELECT; function <= DIRECT; function++) {
-            Master master = new Master(new OutStation());
-            for (int x : new int[] {4, 5, 128, 255}) {
-                check.due("output " + x, command(master, 2, function, x, ON),
-                    194, 129, 128, 0, 12, 1, 23, 1, x, ON, 4);
-            }
-            for (int v : new int[] {0, 1, 2, 5, 255}) {
-                check.due("value " + v, command(master, 2, function, 3, v),
-                    194, 129, 128, 0, 12, 1, 23, 1, 3, v, 3);
-            }
-            dueStatus(check, "neither is right", command(master, 2, function, 4, 5), 4);
-        }
-    }
-
-    private static void wrongBytes(Check check) {
-        int[][] wrong = {{}, {12, 1, 23, 1, 2}, {12, 1, 23, 1, 2, 3, 0}, {13, 1, 23, 1, 2, 3}, {12, 2, 23, 1, 2, 3},
-            {12, 1, 22, 1, 2, 3}, {12, 1, 23, 2, 2, 3}, {12, 1, 23, 2, 2, 3, 1, 3}, {12, 1, 23, 0}};
-        for (int function = SELECT; function <= DIRECT; function++) {
-            for (int[] bytes : wrong) {
-                Master master = new Master(new OutStation());
+            for (int[] bytes : wrongOnes(new int[] {12, 1, 23, 1, 2, ON}, 4)) {
+                Master master = new Master();
                 check.due("function " + function + " with " + Arrays.toString(bytes),
-                    master.request(Master.join(new int[] {192, function}, bytes)), 192, 129, 128, 4);
+                    master.request(Master.join(new int[] {192, function}, bytes)),
+                    Master.answerOf(192, 128, Master.PARAMETER));
                 check.due("the output", master.station.point(2, 2), 0);
             }
+            check.due("two objects", new Master().request(192, function, 12, 1, 23, 2, 0, ON, 1, ON),
+                Master.answerOf(192, 128, Master.PARAMETER));
+            check.due("no object", new Master().request(192, function, 12, 1, 23, 0),
+                Master.answerOf(192, 128, Master.PARAMETER));
+        }
+    }
+
+    @Holds({"the data are these and a STATUS: 4 x is above 3;", "3 v is neither 3 (on) nor 4 (off);"})
+    static void outputsAndValues(Check check) {
+        for (int function : new int[] {SELECT, DIRECT}) {
+            for (int x : new int[] {0, 1, 2, 3, 4, 5, 127, 128, 255}) {
+                for (int v : new int[] {0, 1, 2, 3, 4, 5, 128, 131, 255}) {
+                    int status = x > 3 ? 4 : v == ON || v == OFF ? 0 : 3;
+                    Master master = new Master();
+                    check.due("function " + function + ", x " + x + ", v " + v, master.command(2, function, x, v),
+                        Master.answerOf(194, 128, 0, 12, 1, 23, 1, x, v, status));
+                    for (int y = 0; y < 4; y++) {
+                        boolean on = function == DIRECT && y == x && v == ON;
+                        check.due("output " + y + " then", master.station.point(2, y), on ? 1 : 0);
+                    }
+                }
+            }
+        }
+    }
+
+    @Holds({"the data are these and a STATUS: 4 x is above 3;", "3 v is neither 3 (on) nor 4 (off);",
+        "for OPERATE: 2 nothing is selected,"})
+    static void theFirstFaultCounts(Check check) {
+        Master master = new Master();
+        check.due("x and v and nothing selected", master.statusOf(1, OPERATE, 4, 5), 4);
+        check.due("v and nothing selected", master.statusOf(1, OPERATE, 3, 5), 3);
+        check.due("v below and nothing selected", master.statusOf(1, OPERATE, 3, 2), 3);
+        check.due("nothing selected", master.statusOf(1, OPERATE, 3, ON), 2);
+        check.due("select", master.statusOf(1, SELECT, 3, ON), 0);
+        master.station.pass(11);
+        check.due("something other, and too late", master.statusOf(2, OPERATE, 3, OFF), 2);
+        check.due("select", master.statusOf(1, SELECT, 3, ON), 0);
+        master.station.pass(11);
+        check.due("another number, and too late", master.statusOf(3, OPERATE, 3, ON), 2);
+        check.due("no output", master.station.point(2, 3), 0);
+    }
+
+    @Holds("otherwise 0, and the output becomes 1 or 0 (4, 5), or x and v are selected (3).")
+    static void onAndOff(Check check) {
+        for (int x = 0; x < 4; x++) {
+            Master master = new Master();
+            check.due("select", master.command(0, SELECT, x, ON), Master.answerOf(192, 128, 0, 12, 1, 23, 1, x, ON, 0));
+            check.due("selecting is not operating", master.station.point(2, x), 0);
+            check.due("operate", master.command(1, OPERATE, x, ON), Master.answerOf(193, 128, 0, 12, 1, 23, 1, x, ON, 0));
+            for (int y = 0; y < 4; y++) {
+                check.due("output " + y + " then", master.station.point(2, y), y == x ? 1 : 0);
+            }
+            check.due("select off", master.statusOf(2, SELECT, x, OFF), 0);
+            check.due("it is on still", master.station.point(2, x), 1);
+            check.due("operate off", master.statusOf(3, OPERATE, x, OFF), 0);
+            check.due("it is off", master.station.point(2, x), 0);
+            check.due("direct on", master.statusOf(9, DIRECT, x, ON), 0);
+            check.due("on again", master.statusOf(9, DIRECT, x, ON), 0);
+            check.due("it is on", master.station.point(2, x), 1);
+            check.due("outputs have no events", master.station.events(0) + master.station.events(1), 0);
+        }
+    }
+
+    @Holds("or something other than x and v,")
+    static void somethingOtherIsSelected(Check check) {
+        for (int x = 0; x < 4; x++) {
+            for (int v = ON; v <= OFF; v++) {
+                Master master = new Master();
+                master.command(0, SELECT, 2, ON);
+                boolean same = x == 2 && v == ON;
+                check.due("x " + x + ", v " + v, master.statusOf(1, OPERATE, x, v), same ? 0 : 2);
+                check.due("the output", master.station.point(2, x), same ? 1 : 0);
+            }
+        }
+        Master master = new Master();
+        master.command(0, SELECT, 0, ON);
+        master.command(1, SELECT, 1, ON);
+        check.due("a later selection counts", master.statusOf(2, OPERATE, 1, ON), 0);
+        master.command(3, SELECT, 0, OFF);
+        master.command(3, SELECT, 1, OFF);
+        check.due("the earlier one does not", master.statusOf(4, OPERATE, 0, OFF), 2);
+    }
+
+    @Holds("or by a request whose number plus 1 modulo 16 is not this one;")
+    static void numbers(Check check) {
+        for (int selected = 0; selected < 16; selected++) {
+            for (int number = 0; number < 16; number++) {
+                Master master = new Master();
+                master.command(selected, SELECT, 1, ON);
+                check.due("number " + number + " behind " + selected, master.statusOf(number, OPERATE, 1, ON),
+                    number == (selected + 1) % 16 ? 0 : 2);
+            }
+        }
+    }
+
+    @Holds("Any request other than 0 and 3 makes that nothing is selected (4: behind it),")
+    static void whatEndsASelection(Check check) {
+        int[][] ending = {{1}, {1, 1, 2, 6}, {2, 80, 1, 0, 7, 7, 0}, {2}, {4}, {4, 12, 1, 23, 1, 4, ON},
+            {4, 12, 1, 23, 1, 1, 5}, {4, 12, 1, 23, 1, 0, ON}, {4, 12, 1, 23, 1, 1, OFF}, {5}, {5, 12, 1, 23, 1, 0, ON},
+            {5, 12, 1, 23, 1, 9, ON}, {6}, {128}, {255}};
+        for (int[] other : ending) {
+            Master master = new Master();
+            master.command(0, SELECT, 1, ON);
+            master.request(Master.join(192, other));
+            check.due("behind " + Arrays.toString(other), master.statusOf(1, OPERATE, 1, ON), 2);
+            check.due("the output", master.station.point(2, 1), 0);
+        }
+        Master master = new Master();
+        master.command(0, SELECT, 1, ON);
+        check.due("operate", master.statusOf(1, OPERATE, 1, ON), 0);
+        check.due("behind it there is nothing", master.statusOf(1, OPERATE, 1, ON), 2);
+        master.command(0, SELECT, 1, ON);
+        master.station.pass(11);
+        check.due("too late", master.statusOf(1, OPERATE, 1, ON), 1);
+        check.due("that ends it too", master.statusOf(1, OPERATE, 1, ON), 2);
+    }
+
+    @Holds("Any request other than 0 and 3 makes that nothing is selected")
+    static void whatLeavesASelection(Check check) {
+        Master master = Master.withEvents(1, 1);
+        master.read(60, 2, 6);
+        master.command(15, SELECT, 1, ON);
+        master.confirm(0);
+        master.confirm(15);
+        master.station.change(0, 0, 0);
+        master.station.ask(Master.packed(1, 0, 0, 0, 8), 5);
+        master.station.sum(1, 1);
+        master.bringPart(Master.FIRST, 192, 1);
+        master.bring(1, 2, 3);
+        check.due("operate", master.statusOf(0, OPERATE, 1, ON), 0);
+    }
+
+    @Holds("and so does a 3 that selects nothing itself.")
+    static void aSelectThatSelectsNothing(Check check) {
+        int[][] ending = {{3}, {3, 12, 1, 23, 1, 4, ON}, {3, 12, 1, 23, 1, 1, 5}, {3, 12, 1, 23, 1, 1, 2},
+            {3, 12, 1, 23, 1, 1, ON, 0}, {3, 12, 1, 23, 1, 1}, {3, 12, 1, 23, 2, 1, ON}};
+        for (int[] other : ending) {
+            for (int number = 0; number < 2; number++) {
+                Master master = new Master();
+                master.command(0, SELECT, 1, ON);
+                master.request(Master.join(192 + number, other));
+                check.due("behind " + Arrays.toString(other), master.statusOf(1 + number, OPERATE, 1, ON), 2);
+            }
+        }
+    }
+
+    @Holds("Others: sign FUNCTION.")
+    static void otherFunctions(Check check) {
+        for (int function = 6; function < 256; function++) {
+            check.due("function " + function, new Master().request(193, function, 1, 2, 6),
+                Master.answerOf(193, 128, Master.FUNCTION));
         }
     }
 }

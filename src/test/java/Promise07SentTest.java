@@ -1,103 +1,102 @@
-import java.util.Arrays;
-
-/** Promise 7: the bytes that were sent, and the frames and parts that they make. */
+/** Promise 7: the bytes that were sent. */
 public final class Promise07SentTest {
+    /** How many bytes the answer to a READ without headers has, and the one with a binary point. */
+    private static final int SHORT = 17;
+    private static final int LONGER = 23;
+
     public static void main(String[] args) {
-        Check check = new Check();
-        aShortAnswer(check);
-        aLongAnswer(check);
-        lengthsOfAnswers(check);
-        thePartsNumbersGoOn(check);
-        onlyTheLatestAreKept(check);
-        theMasterThatAsked(check);
-        check.end();
+        Check.run(Promise07SentTest.class);
     }
 
-    private static void aShortAnswer(Check check) {
-        OutStation x = new OutStation();
-        Master master = new Master(x);
-        master.bringPart(192, 197, 1);
-        check.due("sent(-1)", x.sent(-1), 17);
-        check.due("the frame", master.sentBytes(), Master.join(
-            Master.withSum(5, 100, 10, 68, 3, 0, 10, 0), Master.withSum(192, 197, 129, 128, 0)));
-        check.due("the latest byte", x.sent(0), Master.sumOf(192, 197, 129, 128, 0) >> 8);
-        check.due("the first byte", x.sent(16), 5);
-        check.badIndex("sent(17)", () -> x.sent(17));
-        check.badIndex("sent(-2)", () -> x.sent(-2));
-        check.badIndex("sent(least)", () -> x.sent(Integer.MIN_VALUE));
-        check.badIndex("sent(most)", () -> x.sent(Integer.MAX_VALUE));
+    @Holds("How many bytes were sent on the line (k = -1), or the one that was sent k-th latest")
+    static void oneAnswer(Check check) {
+        Master master = new Master();
+        check.due("none", master.station.sent(-1), 0);
+        master.bringRequest(197, 1);
+        check.due("sent(-1)", master.station.sent(-1), SHORT);
+        int[] due = Master.frame(68, 3, 10, 192, 197, 129, 128, 0);
+        for (int k = 0; k < SHORT; k++) {
+            check.due("sent(" + k + ")", master.station.sent(k), due[SHORT - 1 - k]);
+        }
+        master.bring(5, 100, 6, 1);
+        master.station.ask(1, 1);
+        check.due("hearing and telling are not sending", master.station.sent(-1), SHORT);
     }
 
-    private static void aLongAnswer(Check check) {
-        OutStation x = new OutStation();
-        Master master = new Master(x);
-        x.change(1, 7, -2);
-        master.bringPart(192, 192, 1, 60, 1, 6);
-        int[] zero = {1, 0, 0, 0, 0};
-        int[] binary = {1, 2, 0, 0, 7, 1, 1, 1, 1, 1, 1, 1, 1};
-        int[] fragment = Master.join(new int[] {192, 129, 132, 0}, binary,
-            new int[] {30, 1, 0, 0, 7}, Master.times(7, zero), new int[] {1, 254, 255, 255, 255});
-        int[] one = Master.join(new int[] {64}, Arrays.copyOfRange(fragment, 0, 39));
-        int[] two = Master.join(new int[] {129}, Arrays.copyOfRange(fragment, 39, 62));
-        check.due("sent(-1)", x.sent(-1), 94);
-        check.due("two frames", master.sentBytes(),
-            Master.join(Master.frame(68, 3, 10, one), Master.frame(68, 3, 10, two)));
-    }
-
-    private static void lengthsOfAnswers(Check check) {
-        // Each header of one point gives six bytes, and the answer has four in front.
-        int[] four = Master.times(4, 1, 2, 0, 0, 0);
-        check.due("28 bytes go in one part", bytesSentFor(four), 10 + 29 + 4);
-        check.due("34 in one with three blocks", bytesSentFor(Master.join(four, new int[] {1, 2, 0, 0, 0})), 10 + 35 + 6);
-        check.due("39 in a full one", bytesSentFor(Master.join(four, new int[] {1, 2, 0, 0, 5})), 10 + 40 + 6);
-        check.due("40 in two", bytesSentFor(Master.join(four, new int[] {1, 2, 0, 0, 6})), 10 + 40 + 6 + 10 + 2 + 2);
-    }
-
-    private static int bytesSentFor(int[] headers) {
-        Master master = new Master(new OutStation());
-        master.request(Master.join(new int[] {192, 1}, headers));
-        return master.station.sent(-1);
-    }
-
-    private static void thePartsNumbersGoOn(Check check) {
-        Master master = new Master(new OutStation());
-        int number = 0;
-        for (int i = 0; i < 50; i++) {
-            boolean twoParts = i % 3 == 0;
-            master.bringPart(192, twoParts ? new int[] {192, 1, 60, 1, 6} : new int[] {192, 1});
-            int[] bytes = master.sentBytes();
-            check.due("first part of answer " + i, bytes[10], (twoParts ? 64 : 192) + number);
-            number = (number + 1) % 64;
-            if (twoParts) {
-                check.due("second part of answer " + i, bytes[66], 128 + number);
-                number = (number + 1) % 64;
-            }
+    @Holds("or the one that was sent k-th latest (0 .. 255). IndexOutOfBoundsException: there is none.")
+    static void fewerThan256(Check check) {
+        Master master = new Master();
+        check.badIndex("sent(0) before any", () -> master.station.sent(0));
+        check.badIndex("sent(255) before any", () -> master.station.sent(255));
+        for (int i = 1; i <= 15; i++) {
+            master.bringRequest(192, 1);
+            int total = SHORT * i;
+            check.due("sent(-1)", master.station.sent(-1), total);
+            check.due("the first one", master.station.sent(total - 1), 5);
+            check.badIndex("sent(" + total + ")", () -> master.station.sent(total));
+            check.badIndex("sent(256)", () -> master.station.sent(256));
         }
     }
 
-    private static void onlyTheLatestAreKept(Check check) {
-        OutStation x = new OutStation();
-        Master master = new Master(x);
+    @Holds("(0 .. 255). IndexOutOfBoundsException: there is none.")
+    static void just256(Check check) {
+        Master master = new Master();
+        for (int i = 0; i < 14; i++) {
+            master.bringRequest(i < 3 ? new int[] {192, 1, 1, 2, 0, 0, 0} : new int[] {192, 1});
+        }
+        check.due("sent(-1)", master.station.sent(-1), 3 * LONGER + 11 * SHORT);
+        check.due("they are 256", master.station.sent(-1), 256);
+        check.due("the very first one", master.station.sent(255), 5);
+        check.due("the second one", master.station.sent(254), 100);
+        check.badIndex("sent(256)", () -> master.station.sent(256));
+        master.bringRequest(192, 1);
+        check.due("one answer more", master.station.sent(-1), 256 + SHORT);
+        int[] first = Master.frame(68, 3, 10, 192, 192, 129, 128, 0, 1, 2, 0, 0, 0, 1);
+        check.due("the first ones are gone", master.station.sent(255), first[SHORT]);
+        check.badIndex("sent(256) is none", () -> master.station.sent(256));
+        check.badIndex("sent(272) is none", () -> master.station.sent(272));
+    }
+
+    @Holds("or the one that was sent k-th latest (0 .. 255).")
+    static void theLatestOfMany(Check check) {
+        Master master = new Master();
         int[] all = new int[0];
-        for (int i = 0; i < 30; i++) {
-            master.bringPart(192, 192 + i % 16, 1);
-            all = Master.join(all, master.sentBytes());
-            check.due("sent(-1)", x.sent(-1), all.length);
-            if (all.length < 256) {
-                int length = all.length;
-                check.badIndex("sent(" + length + ")", () -> x.sent(length));
-            }
+        for (int i = 0; i < 40; i++) {
+            master.bringRequest(192 + i % 16, 1);
+            all = Master.join(all, Master.frame(68, 3, 10, 192 + i, 192 + i % 16, 129, 128, 0));
         }
+        check.due("sent(-1)", master.station.sent(-1), all.length);
         for (int k = 0; k < 256; k++) {
-            check.due("sent(" + k + ")", x.sent(k), all[all.length - 1 - k]);
+            check.due("sent(" + k + ")", master.station.sent(k), all[all.length - 1 - k]);
         }
-        check.badIndex("sent(256)", () -> x.sent(256));
     }
 
-    private static void theMasterThatAsked(Check check) {
-        OutStation x = new OutStation();
-        for (int from : new int[] {0, 10, 255, 256, 0x1234, 65535}) {
-            check.due("the answer to " + from, new Master(x, from).request(192, 1), 192, 129, 128, 0);
+    @Holds("(k = -1), or the one that was sent k-th latest (0 .. 255). IndexOutOfBoundsException: there is none.")
+    static void otherNumbers(Check check) {
+        Master master = new Master();
+        for (int i = 0; i < 20; i++) {
+            master.bringRequest(192, 1);
         }
+        for (int k : new int[] {Integer.MIN_VALUE, -256, -2, 256, 257, 339, 340, 512, Integer.MAX_VALUE}) {
+            check.badIndex("sent(" + k + ")", () -> master.station.sent(k));
+        }
+        check.due("sent(-1) is as it was", master.station.sent(-1), 20 * SHORT);
+    }
+
+    @Holds("An object is used for at most 512 calls after it has been made;")
+    static void toTheLastOf512Calls(Check check) {
+        OutStation x = new OutStation();
+        int[] request = Master.frame(196, 10, 3, 192, 192, 1, 60, 1, 6);
+        int[] bytes = Master.times(511 * 8 / request.length + 1, request);
+        int left = 0;
+        for (int call = 0; call < 511; call++) {
+            long eight = 0;
+            for (int i = 0; i < 8; i++) {
+                eight = eight << 8 | bytes[8 * call + i];
+            }
+            left = x.hear(eight, 8);
+        }
+        check.due("the row behind 511 calls", left, 511 * 8 % request.length);
+        check.due("the 512th call", x.sent(-1), 511 * 8 / request.length * 94);
     }
 }
